@@ -19,6 +19,10 @@ final class Check {
         if (wrong <= MOST_TOLD) System.out.println("not so: " + what);
     }
 
+    boolean isAllWell() {
+        return wrong == 0;
+    }
+
     boolean isFull() {
         return wrong >= MOST_TOLD;
     }
