@@ -162,7 +162,8 @@ public final class StickRelay {
     public int lot(int seed) {
         if (race.lacksSomebody()) return NOT;
         lots.seed = seed;
-        return lotTime();
+        lots.drawSlips(track.rules[STEP]);
+        return race.timeBy(lots.slips);
     }
 
     public int races(int seed, int n, int most) {
@@ -171,7 +172,8 @@ public final class StickRelay {
         lots.seed = seed;
         int good = 0;
         for (int i = 0; i < n; i++) {
-            int time = lotTime();
+            lots.drawSlips(track.rules[STEP]);
+            int time = race.timeBy(lots.slips);
             if (time != NONE && time <= most) good++;
         }
         return good;
@@ -268,7 +270,8 @@ public final class StickRelay {
         // One search answers all eight questions, as order(NONE, 0 to 7) would.
         orders.search(NONE);
         for (int what = 0; what <= 7; what++) h = 31 * h + orders.told[what];
-        h = 31 * h + order(1, 0);
+        orders.search(1);
+        h = 31 * h + orders.told[0];
         h = 31 * h + lot(7);
         return 31 * h + races(7, 10, 5000);
     }
@@ -307,11 +310,6 @@ public final class StickRelay {
         int old = row[i];
         row[i] = v;
         return old;
-    }
-
-    private int lotTime() {
-        lots.drawSlips(track.rules[STEP]);
-        return race.timeBy(lots.slips);
     }
 
     /** The text of RUNNERS and what it tells of each. */
@@ -452,18 +450,18 @@ public final class StickRelay {
         }
 
         /**
-         * The greatest MARK by which they MEET; NONE.
+         * The greatest MARK by which they MEET; there is one, as by a MARK of 0 they do at x 0.
          * It is the BEST, too: a greater MARK makes the TIME less by a pace a yard, and who is
          * BUMPED by it is BUMPED by every lesser one.
          */
         int farthest(int change, int comes, int goes, int slip) {
             int pace = pace(comes, change);
             if (pace < 1) return NONE;
-            int most = NONE;
+            int most = 0;
             for (int x = 0; x <= rules[ZONE]; x++) {
                 most = Math.max(most, headroom(change, comes, goes, slip, x));
             }
-            return most < 0 ? NONE : Math.min(MOST_MARK, most / pace);
+            return Math.min(MOST_MARK, most / pace);
         }
 
         /** As untilNext, and what a BUMP loses; NONE if OUT. */
@@ -565,7 +563,8 @@ public final class StickRelay {
             int above = 1;
             int below = 1;
             for (int change = 0; change < CHANGES; change++) {
-                above *= sixteenths(change);
+                weigh(change);
+                above *= sharesAt(race.marks[change]);
                 below *= BELOW;
             }
             // What is below is a power of two, so that halving brings lowest terms (and 0 by 1).
@@ -652,7 +651,7 @@ public final class StickRelay {
                     int mark = track.farthest(change, comes, goes, 0);
                     int pair = RUNNERS * comes + goes;
                     marks[change][pair] = mark;
-                    legs[change][pair] = mark == NONE ? NONE : track.leg(change, comes, goes, mark, 0);
+                    legs[change][pair] = track.leg(change, comes, goes, mark, 0);
                 }
             }
         }
@@ -673,7 +672,6 @@ public final class StickRelay {
             int first = RUNNERS * a + b;
             int second = RUNNERS * b + c;
             int third = RUNNERS * c + d;
-            if (legs[0][first] == NONE || legs[1][second] == NONE || legs[2][third] == NONE) return;
             int time = legs[0][first] + legs[1][second] + legs[2][third] + track.span(d, CHANGES, YARDS);
             if (told[0] != NONE && told[0] <= time) return;
             told[0] = time;

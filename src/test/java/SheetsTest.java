@@ -17,6 +17,7 @@ public final class SheetsTest {
         writeRefuses();
         count();
         digestIsAllThatIsTold();
+        digestAtItsTime();
         digestChangesNothing();
         check.end();
     }
@@ -251,6 +252,22 @@ public final class SheetsTest {
             x.set(6, 9);
             x.runs(0, 4);
             check.due("33: digest() of " + text, x.digest(), digestOf(x));
+        }
+    }
+
+    /** All TIMES by STEP 0 are 5000, then 5001: the told one of the races in it. */
+    private static void digestAtItsTime() {
+        int[][] rows = {{5, 5, 5000, 10}, {9, 6, 5001, 0}};
+        for (int[] row : rows) {
+            StickRelay x = Relays.ofRising();
+            x.set(3, 1);
+            x.set(5, 0);
+            x.set(6, 0);
+            x.set(2, row[0]);
+            Relays.marks(x, row[1], 0, 0);
+            check.due("33: time()", x.time(), row[2]);
+            check.due("33: races(7, 10, 5000)", x.races(7, 10, 5000), row[3]);
+            check.due("33: digest() by " + row[2], x.digest(), digestOf(x));
         }
     }
 
