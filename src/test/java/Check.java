@@ -2,25 +2,39 @@
 final class Check {
     private static final int MOST_TOLD = 40;
 
+    private final String ahead;
     private int wrong = 0;
     private int asked = 0;
+
+    Check() {
+        this("");
+    }
+
+    /** What stands ahead of each line that is told. */
+    Check(String ahead) {
+        this.ahead = ahead;
+    }
 
     void due(String call, long got, long want) {
         asked++;
         if (got == want) return;
         wrong++;
-        if (wrong <= MOST_TOLD) System.out.println(call + " answered " + got + ", due is " + want);
+        if (wrong <= MOST_TOLD) System.out.println(ahead + call + " answered " + got + ", due is " + want);
     }
 
     void holds(String what, boolean isSo) {
         asked++;
         if (isSo) return;
         wrong++;
-        if (wrong <= MOST_TOLD) System.out.println("not so: " + what);
+        if (wrong <= MOST_TOLD) System.out.println(ahead + "not so: " + what);
     }
 
     boolean isAllWell() {
         return wrong == 0;
+    }
+
+    boolean hasAsked() {
+        return asked > 0;
     }
 
     boolean isFull() {

@@ -35,4 +35,21 @@ final class Relays {
         relay.mark(1, second);
         relay.mark(2, third);
     }
+
+    /** Four are there; who RUNS one STRETCH is none of them: 0, 1, 2, 3 in turn. */
+    static StickRelay[] lacking() {
+        StickRelay[] all = new StickRelay[4];
+        for (int stretch = 0; stretch < 4; stretch++) {
+            all[stretch] = ofRising();
+            all[stretch].runs(stretch, 4);
+        }
+        return all;
+    }
+
+    /** At each CHANGE who comes is no later than who goes at every yard of the ZONE. */
+    static StickRelay meetingEverywhere() {
+        StickRelay x = ofEven();
+        marks(x, 3, 3, 3);
+        return x;
+    }
 }
