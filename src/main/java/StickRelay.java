@@ -421,7 +421,8 @@ public final class StickRelay {
         }
 
         int span(int runner, int stretch, int yards) {
-            int slowYards = Math.min(yards, 4 * roster.rise[runner]);
+            int slowYards = 4 * roster.rise[runner];
+            if (slowYards > yards) slowYards = yards;
             return yards * extras[stretch] + slowYards * roster.slow[runner]
                 + (yards - slowYards) * roster.full[runner];
         }

@@ -1,6 +1,6 @@
 import java.util.function.Supplier;
 
-/** What refusals and questions leave as it was, where they are no FINDINGS: see also Whole.stays elsewhere. */
+/** What refusals answer, each by its kind, and what they and questions leave as it was: see also Whole.stays elsewhere. */
 final class EdgesOfRefusals {
     private static final int SIZE = 5;
 
@@ -79,12 +79,54 @@ final class EdgesOfRefusals {
         askedAllStays(is, "nobody, by a FAULT", () -> withText(7));
     }
 
-    @Edge(promise = 10, says = "slip(int change, int v)")
-    static void refusalsAsToldOfEachKindOfAnswer(Check is) {
-        StickRelay x = new StickRelay();
-        is.due("as an int", x.mark(3, 0), StickRelay.BAD);
-        is.due("as any number", x.slip(3, 0), -1000 + StickRelay.BAD);
-        is.due("as a long", x.all(2), Long.MIN_VALUE - StickRelay.BAD);
-        is.due("as an item", x.get(4, 0, 0), Integer.MIN_VALUE);
+    @Edge(promise = 32, says = "FINDINGS (answers -10 less the number; they change nothing but count() 8)")
+    static void eachFindingAnswers10LessItsNumber(Check is) {
+        StickRelay x = Whole.rich();
+        is.due("NULL", x.lose(3), -10 - 1);
+        is.due("INDEX", x.lay(0, 0, 3, 5), -10 - 2);
+        is.due("CAST", x.lay(0, 1, 0, 5), -10 - 3);
+        is.due("STORE", x.copy(0, 0, 1, 0, 1), -10 - 4);
+        is.due("SIZE", x.sheet(0, 0, -1), -10 - 5);
+        is.holds("they change nothing else", Whole.of(x).equals(Whole.of(Whole.rich())));
+    }
+
+    @Edge(promise = 32, says = "1 NULL: the SHEET is LOST")
+    static void nullOfEachCallOnALostSheet(Check is) {
+        for (int s = 0; s < 4; s++) {
+            StickRelay x = new StickRelay();
+            int[] answers = {x.read(s), x.lose(s), x.lay(s, 0, 0, 5), x.copy(s, 0, s, 0, 0), x.write(s)};
+            for (int answer : answers) is.due("of SHEET " + s, answer, -11);
+            is.due("sheet(" + s + ", 0, 0) alone is well", x.sheet(s, 0, 0), 0);
+        }
+    }
+
+    @Edge(promise = 32, says = "4 STORE: unlike FORMS")
+    static void storeOfEachTwoForms(Check is) {
+        StickRelay x = Whole.rich();
+        for (int s = 0; s < 3; s++) {
+            for (int t = 0; t < 3; t++) is.due("copy(" + s + ", 0, " + t + ", 0, 0)", x.copy(s, 0, t, 0, 0), s == t ? 1 : -14);
+        }
+    }
+
+    @Edge(promise = 19, says = "Where the answer is a long, a refusal -x is the least long and x more")
+    static void aRefusalAsALong(Check is) {
+        is.due("all(2)", new StickRelay().all(2), Long.MIN_VALUE - StickRelay.BAD);
+        is.due("all(0)", new StickRelay().all(0), Long.MIN_VALUE - StickRelay.NOT);
+    }
+
+    @Edge(promise = 10, says = "where any number is told, it is -1000 less x")
+    static void aRefusalWhereAnyNumberIsTold(Check is) {
+        is.due("slip(3, 0)", new StickRelay().slip(3, 0), -1000 + StickRelay.BAD);
+        is.due("slip(0, 61)", new StickRelay().slip(0, 61), -1000 + StickRelay.BAD);
+    }
+
+    @Edge(promise = 30, says = "Refusals, the first that fits, in the order told at each act")
+    static void theFirstThatFitsOfAllThatFit(Check is) {
+        StickRelay x = Whole.rich();
+        is.due("copy: BAD, NULL, STORE, INDEX", x.copy(4, -1, 3, -1, -1), StickRelay.BAD);
+        is.due("copy: NULL, STORE, INDEX", x.copy(1, -1, 3, -1, -1), -11);
+        is.due("copy: STORE, INDEX", x.copy(1, -1, 2, -1, -1), -14);
+        is.due("copy: INDEX", x.copy(1, -1, 1, -1, -1), -12);
+        is.due("count(8)", x.count(8), 2);
     }
 }

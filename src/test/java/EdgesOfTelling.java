@@ -160,7 +160,7 @@ final class EdgesOfTelling {
             row(4130, 0, 1, 2, 3, 19, 19, 19, 4130, 4465, 10))).longValue());
     }
 
-    @Edge(promise = 33, says = "(all as they are told); time() (as it is told)")
+    @Edge(promise = 33, says = "(of each thing all that is told of it, then of the next one)")
     static void theDigestWithAChangeOut(Check is) {
         StickRelay x = Relays.ofRising();
         x.mark(1, 20);
@@ -173,16 +173,18 @@ final class EdgesOfTelling {
 
     /** By SEED 7 the SLIPS of ten races are 1, -2, -1, -1, 1, -1, 1, -1, -1, -1 times STEP together. */
     @Edge(promise = 33, says = "lot(7), races(7, 10, 5000) (as they are told)")
-    static void theDigestWithATimeOfJust5000(Check is) {
+    static void theDigestWithTimesOfJust5000And5001(Check is) {
         StickRelay x = Relays.ofRising();
         Relays.marks(x, 0, 0, 0);
         x.set(5, 99);
-        x.set(6, 3);
-        is.due("digest()", x.digest(), mixed(joined(
+        long[] allAhead = joined(
             row(4, 27, 20, 0, 0, 0, 4, 20, NONE), times(4, 10, 18, 5, 3, 660),
             row(0, 1160, 100, 1180, 2340, 100, 2360, 3520, 100, 3540, 4700, 100),
-            times(3, 0, 2, 16, 19, 19, 0), row(4997, 1, 1),
-            row(4130, 0, 1, 2, 3, 19, 19, 19, NONE, 5000, 10))).longValue());
+            times(3, 0, 2, 16, 19, 19, 0), row(4997, 1, 1), row(4130, 0, 1, 2, 3, 19, 19, 19, NONE));
+        x.set(6, 3);
+        is.due("digest() by STEP 3", x.digest(), mixed(joined(allAhead, row(5000, 10))).longValue());
+        x.set(6, 4);
+        is.due("digest() by STEP 4", x.digest(), mixed(joined(allAhead, row(5001, 7))).longValue());
     }
 
     @Edge(promise = 33, says = "as longs that wrap")

@@ -15,6 +15,7 @@ public final class EdgesTest {
         EdgesOfText.class, EdgesOfRules.class, EdgesOfRace.class, EdgesOfOdds.class, EdgesOfLots.class,
         EdgesOfSheets.class, EdgesOfTelling.class, EdgesOfRefusals.class,
     };
+    private static final Path DOCUMENT = Path.of("../shared/DOC.md");
     private static final int PROMISES = 33;
 
     public static void main(String[] args) throws Exception {
@@ -24,7 +25,7 @@ public final class EdgesTest {
             return;
         }
         Check check = new Check();
-        String document = Files.readString(Path.of("../shared/DOC.md"));
+        String document = Files.readString(DOCUMENT);
         boolean[] isHeld = new boolean[PROMISES + 1];
         for (Method edge : edges) {
             Edge told = edge.getAnnotation(Edge.class);
