@@ -1,27 +1,26 @@
+import java.io.IOException;
 import java.lang.reflect.Constructor;
 import java.lang.reflect.Field;
 import java.lang.reflect.Method;
 import java.lang.reflect.Modifier;
+import java.nio.file.Files;
+import java.nio.file.Path;
 import java.util.Arrays;
 import java.util.TreeSet;
+import java.util.regex.Matcher;
+import java.util.regex.Pattern;
 
 /** The public face is the document's, and nothing else can be seen from outside. */
 public final class FaceTest {
-    private static final String[] METHODS = {
-        "int type(int)", "int wipe()", "int undo()", "int fault()", "int runner(int,int)", "int runs(int,int)",
-        "int set(int,int)", "int mark(int,int)", "int slip(int,int)", "int read(int)", "int takes(int,int,int)",
-        "int when(int,int)", "int meet(int)", "int kind(int)", "int time()", "int carries(int)", "int chance(int)",
-        "long all(int)", "int safe(int,int)", "int best(int)", "int order(int,int)", "int blame(int,int)",
-        "int lot(int)", "int races(int,int,int)", "int sheet(int,int,int)", "int lose(int)",
-        "int lay(int,int,int,int)", "int get(int,int,int)", "int copy(int,int,int,int,int)", "int write(int)",
-        "int count(int)", "long digest()",
-    };
+    private static final Path DOCUMENT = Path.of("../shared/DOC.md");
+    private static final Pattern METHOD = Pattern.compile("    public (\\w+) (\\w+)\\(([\\w, ]*)\\);");
 
     public static void main(String[] args) throws Exception {
         Check check = new Check();
         Class<StickRelay> face = StickRelay.class;
         check.due("modifiers", face.getModifiers(), Modifier.PUBLIC | Modifier.FINAL);
-        check.holds("the methods", seenMethods(face).equals(new TreeSet<>(Arrays.asList(METHODS))));
+        check.due("methods that the document lists", listedMethods().size(), 32);
+        check.holds("the methods", seenMethods(face).equals(listedMethods()));
         check.holds("the fields", seenFields(face).equals(new TreeSet<>(Arrays.asList("NONE", "BAD", "NOT", "FULL"))));
         for (String name : new String[] {"NONE", "BAD", "NOT", "FULL"}) {
             Field field = face.getDeclaredField(name);
@@ -37,6 +36,18 @@ public final class FaceTest {
         check.due("NOT", StickRelay.NOT, -3);
         check.due("FULL", StickRelay.FULL, -4);
         check.end();
+    }
+
+    /** As the document lists them: what is answered, the name, the types of the numbers. */
+    private static TreeSet<String> listedMethods() throws IOException {
+        TreeSet<String> listed = new TreeSet<>();
+        for (String line : Files.readAllLines(DOCUMENT)) {
+            Matcher method = METHOD.matcher(line);
+            if (!method.matches()) continue;
+            String types = method.group(3).replaceAll(" \\w+(, |$)", ",").replaceAll(",$", "");
+            listed.add(method.group(1) + " " + method.group(2) + "(" + types + ")");
+        }
+        return listed;
     }
 
     private static TreeSet<String> seenMethods(Class<?> face) {
